@@ -476,6 +476,8 @@ public final class ActTest {
             }
             Check.same("nothing stays", d.counts(), before);
         }
+        spanOf("fan 4; size 3; pace 0", 60, 6);
+        spanOf("fan 2; size 2; pace 0", 10, 1);
         Desk d = new Desk();
         for (int n : new int[] {-1, 61}) {
             Check.due("ahead", () -> d.x.ahead(n, false), BAD);
@@ -483,6 +485,16 @@ public final class ActTest {
             Check.due("span", () -> d.x.span(n, false), BAD);
             Check.due("ticks", () -> d.x.ticks(n), BAD);
         }
+    }
+
+    /** Of all six seeds only that one has the least. */
+    private static void spanOf(String text, int n, int seed) {
+        Desk other = Desk.of(text);
+        other.x.seed(seed);
+        other.x.ticks(n);
+        int stalled = other.x.count(11);
+        Check.due("the least by one seed alone", () -> Desk.of(text).x.span(n, false), stalled);
+        Check.due("the others are more", () -> Desk.of(text).x.span(n, true) > stalled, true);
     }
 
     private static void logRing() {

@@ -130,6 +130,7 @@ public final class AskTest {
         Check.due("may of no runs", () -> new Desk().tape().x.may(), 0);
         Desk two = Desk.of("run level 0 of 7 7; run level 0 of 7 7");
         Check.due("look at runs that are alike", () -> two.tape().x.look(), 0);
+        Check.due("look at twelve that are alike", () -> sized(1, 1, 1, 1, 1, 1, 1, 1, 1, 1, 1, 1).tape().x.look(), 0);
         Desk three = Desk.of("run level 0 of 7 7 9 1; run level 0 of 7 7; run level 0 of 7 8 9 1; run level 0 of 7 8 9 2");
         Check.due("none is a value, too", () -> three.tape().x.look(), 7);
         Desk four = Desk.of("run level 0 of 8 7 9 1; run level 0 of 8 7; run level 0 of 8 8 9 3; run level 0 of 8 8 9 2");
@@ -249,8 +250,12 @@ public final class AskTest {
         Check.due("not rewritten yet", () -> d.x.most(1), 0);
         d.x.work();
         Check.due("rewritten", () -> d.x.most(1), 0);
+        Desk zero = Desk.of("fan 2; pace 9; run level 0 of 0 1; run level 0 of 0 2; run level 1 of 5 5 6 6");
+        zero.x.work();
+        Check.due("rewrites of the key 0", () -> zero.x.run(0, 2), 1);
+        d.x.tune(0, 4);
         d.x.put(9, 9);
         d.x.flush();
-        Check.due("the rewritten one", () -> d.x.most(1) >= 1, true);
+        Check.due("the rewritten one", () -> d.x.most(1), 1);
     }
 }
