@@ -389,7 +389,7 @@ public final class RunLedger {
         }
         int fewest = 2;
         int best = NONE;
-        for (int run = 0; run < live.runCount; run++) {
+        for (int run = 0; run < live.runCount && run < MOST_RUNS; run++) {
             int wrong = wrongRows(live.runs[run], told);
             if (wrong < fewest) {
                 fewest = wrong;
@@ -459,7 +459,7 @@ public final class RunLedger {
         }
         int best = NONE;
         int greatest = NONE;
-        for (int run = 0; run < live.runCount; run++) {
+        for (int run = 0; run < live.runCount && run < MOST_RUNS; run++) {
             int weight = what == 0 ? live.runs[run].count : live.runs[run].mostRewritten();
             if (weight > greatest) {
                 greatest = weight;
@@ -471,8 +471,8 @@ public final class RunLedger {
 
     public int twins() {
         int pairs = 0;
-        for (int one = 0; one < live.runCount; one++) {
-            for (int other = one + 1; other < live.runCount; other++) {
+        for (int one = 0; one < live.runCount && one < MOST_RUNS; one++) {
+            for (int other = one + 1; other < live.runCount && other < MOST_RUNS; other++) {
                 if (areTwins(live.runs[one], live.runs[other])) {
                     pairs++;
                 }
@@ -652,7 +652,7 @@ public final class RunLedger {
 
     private int fitting(int told) {
         int bits = 0;
-        for (int run = 0; run < live.runCount; run++) {
+        for (int run = 0; run < live.runCount && run < MOST_RUNS; run++) {
             if (wrongRows(live.runs[run], told) <= 1) {
                 bits |= 1 << run;
             }
@@ -662,9 +662,9 @@ public final class RunLedger {
 
     private int greatestPart(int fit, int key) {
         int greatest = 0;
-        for (int one = 0; one < live.runCount; one++) {
+        for (int one = 0; one < live.runCount && one < MOST_RUNS; one++) {
             int part = 0;
-            for (int other = 0; other < live.runCount; other++) {
+            for (int other = 0; other < live.runCount && other < MOST_RUNS; other++) {
                 boolean alike = live.runs[one].valueOf(key) == live.runs[other].valueOf(key);
                 if (alike && (fit >> one & fit >> other & 1) != 0) {
                     part++;
@@ -1088,7 +1088,7 @@ public final class RunLedger {
 
         int inputBits() {
             int bits = 0;
-            for (int run = 0; run < runCount; run++) {
+            for (int run = 0; run < runCount && run < MOST_RUNS; run++) {
                 if (runs[run].input) {
                     bits |= 1 << run;
                 }
@@ -1098,7 +1098,7 @@ public final class RunLedger {
 
         int found(int key) {
             int value = table.valueOf(key);
-            for (int run = 0; run < runCount && value == NONE; run++) {
+            for (int run = 0; run < runCount && run < MOST_RUNS && value == NONE; run++) {
                 value = runs[run].valueOf(key);
             }
             return value == REMOVED ? NONE : value;
@@ -1109,7 +1109,7 @@ public final class RunLedger {
                 return 1;
             }
             int looked = table.count > 0 ? 1 : 0;
-            for (int run = 0; run < runCount; run++) {
+            for (int run = 0; run < runCount && run < MOST_RUNS; run++) {
                 looked++;
                 if (runs[run].valueOf(key) != NONE) {
                     return looked;
@@ -1171,7 +1171,7 @@ public final class RunLedger {
             int best = dearestLevel();
             boolean both = levelled && best < LEVELS - 1;
             int many = 0;
-            for (int run = 0; run < runCount; run++) {
+            for (int run = 0; run < runCount && run < MOST_RUNS; run++) {
                 Row row = runs[run];
                 row.input = row.level == best || both && row.level == best + 1;
                 many += row.input ? row.count : 0;
@@ -1220,7 +1220,7 @@ public final class RunLedger {
             int seen = 0;
             int newest = NONE;
             int oldest = NONE;
-            for (int run = 0; run < runCount; run++) {
+            for (int run = 0; run < runCount && run < MOST_RUNS; run++) {
                 if (runs[run].input) {
                     oldest = run;
                     if (runs[run].valueOf(key) != NONE) {
@@ -1247,7 +1247,7 @@ public final class RunLedger {
         /** The least key of the inputs from which on the job goes on. */
         private int nextKey() {
             for (int key = job.at; key < KEYS; key++) {
-                for (int run = 0; run < runCount; run++) {
+                for (int run = 0; run < runCount && run < MOST_RUNS; run++) {
                     if (runs[run].input && runs[run].valueOf(key) != NONE) {
                         return key;
                     }
@@ -1257,7 +1257,7 @@ public final class RunLedger {
         }
 
         private boolean isBehind(int oldest, int key) {
-            for (int run = oldest + 1; run < runCount; run++) {
+            for (int run = oldest + 1; run < runCount && run < MOST_RUNS; run++) {
                 if (runs[run].valueOf(key) != NONE) {
                     return true;
                 }
@@ -1275,7 +1275,7 @@ public final class RunLedger {
                 output = old;
             }
             int left = 0;
-            for (int run = 0; run < runCount; run++) {
+            for (int run = 0; run < runCount && run < MOST_RUNS; run++) {
                 Row row = runs[run];
                 if (!row.input) {
                     runs[run] = runs[left];
@@ -1283,7 +1283,7 @@ public final class RunLedger {
                     left++;
                 }
             }
-            for (int run = left; run < runCount; run++) {
+            for (int run = left; run < runCount && run < MOST_RUNS; run++) {
                 runs[run].wipe();
             }
             runCount = left;
@@ -1297,7 +1297,7 @@ public final class RunLedger {
                 return;
             }
             journal.note(tick, GIVEN_UP, job.level, output.count);
-            for (int run = 0; run < runCount; run++) {
+            for (int run = 0; run < runCount && run < MOST_RUNS; run++) {
                 runs[run].input = false;
             }
             output.wipe();
