@@ -1790,6 +1790,11 @@ public final class RunLedger {
         boolean readAll() {
             lines = 0;
             used = 0;
+            starts[0] = 0;
+            // A law without a line is a law, and takes the place of the one before.
+            if (scan.is(TEXT_END)) {
+                return true;
+            }
             for (int line = 0; line < MOST_LINES; line++) {
                 starts[line] = used;
                 kinds[line] = scan.takesFrom(PACE_WORD, WORTH_WORD);

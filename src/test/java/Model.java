@@ -436,6 +436,9 @@ final class Model {
 
     List<Line> lawText() {
         List<Line> lines = new ArrayList<>();
+        if (peek().isEmpty()) {
+            return lines;
+        }
         while (true) {
             String kind = peek();
             if (lines.size() == 12 || !List.of("pace", "cost", "worth").contains(kind)) {

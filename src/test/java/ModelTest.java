@@ -153,7 +153,7 @@ public final class ModelTest {
 
     private String lawText() {
         StringBuilder t = new StringBuilder();
-        int lines = 1 + n(n(8) == 0 ? 13 : 5);
+        int lines = n(20) == 0 ? 0 : 1 + n(n(8) == 0 ? 13 : 5);
         for (int i = 0; i < lines; i++) {
             t.append(i == 0 ? "" : ";" + blank());
             t.append(new String[] {"pace", "cost", "worth"}[n(3)]).append(blank()).append(n(20) == 0 ? n(42) : n(12));

@@ -11,6 +11,7 @@ public final class TextTest {
         wrongKeepsAll();
         twelveTexts();
         lawTexts();
+        lawWithoutLines();
         lawDepth();
         lawFacts();
         lawWorth();
@@ -236,8 +237,12 @@ public final class TextTest {
     }
 
     private static void lawTexts() {
-        law("", 0, 0);
-        law("   ", 3, 0);
+        law("", -1, 0);
+        law("   ", -1, 0);
+        law(";", 0, 0);
+        law(" ;", 1, 0);
+        law("; pace 1", 0, 0);
+        law("  x", 2, 0);
         law("pace 40", -1, 1);
         law("pace 41", 5, 0);
         law("pace 0040", 5, 0);
@@ -284,6 +289,29 @@ public final class TextTest {
         Check.due("its lines", () -> d.x.count(3), 2);
         Check.due("law in its place", () -> d.law("pace 7"), 1);
         Check.due("slice by it", () -> d.x.slice(), 9);
+    }
+
+    private static void lawWithoutLines() {
+        Desk d = new Desk();
+        Check.due("no law at first", () -> d.x.count(3), -1);
+        Check.due("nothing on a new tape", () -> d.x.law(), 0);
+        Check.due("a law of no lines", () -> d.x.count(3), 0);
+        Check.due("slice without lines", () -> d.x.slice(), 2);
+        d.law("pace 7; worth 3");
+        Check.due("a wrong one ahead of it", () -> d.law("pace"), BAD);
+        Check.due("its fault", () -> d.x.fault(), 4);
+        d.x.put(1, 1);
+        Check.due("an act ahead of it", () -> d.x.count(16), 1);
+        Check.due("blanks alone", () -> d.law("     "), 0);
+        Check.due("no fault", () -> d.x.fault(), -1);
+        Check.due("in place of the one before", () -> d.x.slice(), 2);
+        Check.due("worth without lines", () -> d.x.level(0, 3), 10);
+        Check.due("none of its lines", () -> d.x.count(3), 0);
+        Check.due("acts forgotten", () -> d.x.undo(), false);
+        d.x.image();
+        d.law("cost 1");
+        Check.due("back to a law of no lines", () -> d.x.back(), true);
+        Check.due("that has none", () -> d.x.count(3), 0);
     }
 
     private static void lawDepth() {
