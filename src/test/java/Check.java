@@ -4,8 +4,16 @@ import java.util.concurrent.Callable;
 final class Check {
     static int passed = 0;
     static int failed = 0;
+    /** The test that runs, and which of its answers it looks at. */
+    private static String test = "";
+    private static int answer = 0;
 
     private Check() {
+    }
+
+    static void open(String name) {
+        test = name;
+        answer = 0;
     }
 
     /** The answer as a text; of a call that throws the exact class of its exception. */
@@ -24,13 +32,18 @@ final class Check {
     }
 
     static void same(String what, String got, String want) {
+        answer++;
         if (got.equals(want)) {
             passed++;
         } else {
-            failed++;
-            if (failed <= 40) {
-                System.out.println(what + " answered " + got + ", due is " + want);
-            }
+            fail(what + " answered " + got + ", due is " + want);
+        }
+    }
+
+    static void fail(String told) {
+        failed++;
+        if (failed <= 40) {
+            System.out.println(test + (test.isEmpty() ? "" : " (answer " + answer + ")") + told);
         }
     }
 

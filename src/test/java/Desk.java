@@ -1,9 +1,14 @@
-/** A ledger with calls that put whole texts on its tape. */
+/** A ledger with calls that put whole texts on its tape, and that tell much of it at once. */
 final class Desk {
+    private static final int TAPE = 400;
+
     final RunLedger x = new RunLedger();
 
     /** The tape has these bytes alone. */
     Desk tape(int... bytes) {
+        if (bytes.length > TAPE) {
+            throw new IllegalArgumentException("a test's text is longer than the tape");
+        }
         x.end(0);
         int[] five = new int[5];
         for (int at = 0; at < bytes.length; at += 20) {
@@ -45,6 +50,11 @@ final class Desk {
         return desk;
     }
 
+    Desk with(String law) {
+        law(law);
+        return this;
+    }
+
     /** Of the run the keys, values and rewrites, as "key:value/rewrites". */
     String row(int run) {
         StringBuilder told = new StringBuilder();
@@ -71,5 +81,49 @@ final class Desk {
             told.append(what == 0 ? "" : " ").append(x.count(what));
         }
         return told.toString();
+    }
+
+    /** Of the job the level, inputs, entries of the output, at and left. */
+    String job() {
+        StringBuilder told = new StringBuilder();
+        for (int what = 0; what <= 4; what++) {
+            told.append(what == 0 ? "" : " ").append(x.job(what));
+        }
+        return told.toString();
+    }
+
+    /** Of the runs the levels, newest first. */
+    String levels() {
+        StringBuilder told = new StringBuilder();
+        for (int run = 0; run < x.count(0); run++) {
+            told.append(run == 0 ? "" : " ").append(x.run(run, 0));
+        }
+        return told.toString();
+    }
+
+    /** All that going back and undoing bring back, but for the log and how many acts can be undone. */
+    String state() {
+        StringBuilder told = new StringBuilder();
+        for (int what = 0; what <= 15; what++) {
+            told.append(x.count(what)).append(' ');
+        }
+        for (int run = -1; run < x.count(0); run++) {
+            told.append("| ").append(run < 0 ? "table" : String.valueOf(x.run(run, 0))).append(' ').append(row(run));
+        }
+        told.append("| job ").append(job()).append(' ').append(row(99));
+        int seed = x.seed(0);
+        x.seed(seed);
+        told.append("| seed ").append(seed).append(" slice ").append(x.slice()).append(" levels");
+        for (int level = 0; level < 4; level++) {
+            for (int what = 0; what < 4; what++) {
+                told.append(' ').append(x.level(level, what));
+            }
+        }
+        return told.toString();
+    }
+
+    /** All that can be asked but for the tape: the state, the log, the fault and how many acts can be undone. */
+    String all() {
+        return state() + "| log " + logged() + "| fault " + x.fault() + " acts " + x.count(16);
     }
 }

@@ -3,8 +3,9 @@ import java.util.concurrent.Callable;
 
 /** Runs of drawn calls on the program and on the model: each answer, and now and then all that can be asked. */
 public final class ModelTest {
-    private static final int RUNS = 900;
-    private static final int CALLS = 120;
+    private static final int RUNS = 2500;
+    /** So many calls of one object are promised. */
+    private static final int CALLS = 512;
     private static final int[] FAR = {-1, -2, 99, 100, 101, 60, 61, 59, 400, 401, 256, Integer.MAX_VALUE, Integer.MIN_VALUE};
 
     private final Random random;
@@ -12,6 +13,7 @@ public final class ModelTest {
     private final Model m = new Model();
     private final StringBuilder told = new StringBuilder();
     private boolean right = true;
+    private int calls = 0;
 
     private ModelTest(long seed) {
         random = new Random(seed);
@@ -30,24 +32,25 @@ public final class ModelTest {
 
     private boolean play() {
         int style = random.nextInt(5);
-        for (int i = 0; i < CALLS && right; i++) {
-            if (style != 0 && i % 3 == 0 || random.nextInt(4) == 0) {
+        while (right && calls < CALLS - 150) {
+            if (style != 0 && random.nextInt(3) > 0 || random.nextInt(4) == 0) {
                 act(style);
             } else {
                 ask();
             }
-            if (random.nextInt(6) == 0) {
-                all();
+            if (random.nextInt(12) == 0) {
+                much(25);
             }
         }
-        all();
+        much(6);
         return right;
     }
 
     private void both(String call, Callable<?> got, Callable<?> want) {
-        if (!right) {
+        if (!right || calls >= CALLS) {
             return;
         }
+        calls++;
         String g = Check.said(got);
         String w = Check.said(want);
         if (!g.equals(w)) {
@@ -264,10 +267,7 @@ public final class ModelTest {
                 both("tune", () -> x.tune(what, n), () -> m.tune(what, n));
             }
             case 13 -> both("undo", x::undo, m::undo);
-            case 14 -> {
-                x.image();
-                m.image();
-            }
+            case 14 -> both("image", () -> imaged(x), () -> imaged(m));
             default -> {
                 if (n(2) == 0) {
                     both("back", x::back, m::back);
@@ -277,6 +277,16 @@ public final class ModelTest {
                 }
             }
         }
+    }
+
+    private static boolean imaged(RunLedger ledger) {
+        ledger.image();
+        return true;
+    }
+
+    private static boolean imaged(Model model) {
+        model.image();
+        return true;
     }
 
     private void ask() {
@@ -323,51 +333,58 @@ public final class ModelTest {
         }
     }
 
-    private void all() {
-        both("debt", x::debt, m::debt);
-        both("slice", x::slice, m::slice);
-        both("many", x::many, m::many);
-        both("over", () -> x.over(false), () -> m.over(false));
-        both("again", () -> x.over(true), () -> m.over(true));
-        both("cheapest", () -> x.cheapest(false), () -> m.cheapest(false));
-        both("split", () -> x.cheapest(true), () -> m.cheapest(true));
-        both("deepest", x::deepest, m::deepest);
-        both("lead", x::lead, m::lead);
-        both("side", x::side, m::side);
-        both("rests", x::rests, m::rests);
-        both("twins", x::twins, m::twins);
-        both("fault", x::fault, () -> m.fault);
+    /** All that can be asked, of which each is asked once in so many times. */
+    private void much(int times) {
+        some(times, "debt", x::debt, m::debt);
+        some(times, "slice", x::slice, m::slice);
+        some(times, "many", x::many, m::many);
+        some(times, "over", () -> x.over(false), () -> m.over(false));
+        some(times, "again", () -> x.over(true), () -> m.over(true));
+        some(times, "cheapest", () -> x.cheapest(false), () -> m.cheapest(false));
+        some(times, "split", () -> x.cheapest(true), () -> m.cheapest(true));
+        some(times, "deepest", x::deepest, m::deepest);
+        some(times, "lead", x::lead, m::lead);
+        some(times, "side", x::side, m::side);
+        some(times, "rests", x::rests, m::rests);
+        some(times, "twins", x::twins, m::twins);
+        some(times, "fault", x::fault, () -> m.fault);
         for (int i = -1; i <= 17; i++) {
             int n = i;
-            both("count " + n, () -> x.count(n), () -> m.count(n));
-            both("odds", () -> x.odds(n), () -> m.odds(n));
-            both("most", () -> x.most(n), () -> m.most(n));
-            both("job", () -> x.job(n), () -> m.job(n));
-            both("pairs", () -> x.pairs(n), () -> m.pairs(n));
-            both("led", () -> x.led(n, true), () -> m.led(n, true));
-            both("led", () -> x.led(n, false), () -> m.led(n, false));
+            some(times, "count " + n, () -> x.count(n), () -> m.count(n));
+            some(times, "odds", () -> x.odds(n), () -> m.odds(n));
+            some(times, "most", () -> x.most(n), () -> m.most(n));
+            some(times, "job", () -> x.job(n), () -> m.job(n));
+            some(times, "pairs", () -> x.pairs(n), () -> m.pairs(n));
+            some(times, "led", () -> x.led(n, true), () -> m.led(n, true));
+            some(times, "led", () -> x.led(n, false), () -> m.led(n, false));
             for (int w = -1; w <= 5; w++) {
                 int what = w;
-                both("run", () -> x.run(n, what), () -> m.run(n, what));
-                both("level", () -> x.level(n, what), () -> m.level(n, what));
+                some(times, "run", () -> x.run(n, what), () -> m.run(n, what));
+                some(times, "level", () -> x.level(n, what), () -> m.level(n, what));
             }
         }
         for (int k = -1; k <= 60; k++) {
             int key = k;
-            both("get", () -> x.get(key), () -> m.get(key));
-            both("looks", () -> x.looks(key), () -> m.looks(key));
-            both("rank", () -> x.rank(key), () -> m.rank(key));
+            some(times, "get", () -> x.get(key), () -> m.get(key));
+            some(times, "looks", () -> x.looks(key), () -> m.looks(key));
+            some(times, "rank", () -> x.rank(key), () -> m.rank(key));
             for (int w = 0; w < 4; w++) {
                 int what = w;
-                both("log", () -> x.log(key, what), () -> m.log(key, what));
+                some(times, "log", () -> x.log(key, what), () -> m.log(key, what));
             }
         }
         for (int run : new int[] {-1, 99, n(12), n(12)}) {
             for (int k = 0; k < 40; k++) {
                 int key = k;
                 int what = n(3);
-                both("entry", () -> x.entry(run, key, what), () -> m.entry(run, key, what));
+                some(times, "entry", () -> x.entry(run, key, what), () -> m.entry(run, key, what));
             }
+        }
+    }
+
+    private void some(int times, String call, Callable<?> got, Callable<?> want) {
+        if (n(times) == 0) {
+            both(call, got, want);
         }
     }
 }
