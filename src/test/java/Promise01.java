@@ -1,5 +1,9 @@
+import java.lang.reflect.Field;
 import java.lang.reflect.Method;
 import java.lang.reflect.Modifier;
+import java.util.HashMap;
+import java.util.Map;
+import java.util.Set;
 import java.util.TreeSet;
 
 /** RunLedger(), and the face. */
@@ -101,5 +105,58 @@ final class Promise01 extends Promise {
         is(got, want);
         is(Modifier.isPublic(RunLedger.class.getModifiers()) && Modifier.isFinal(RunLedger.class.getModifiers()), true);
         is(RunLedger.class.getConstructors().length, 1);
+    }
+
+    // The public face: each method declares the exceptions that stand behind it, and no other ones.
+    static void promise01_exceptionsOfTheFace() {
+        String i = "IndexOutOfBoundsException", n = "NoSuchElementException", a = "IllegalArgumentException";
+        String s = "IllegalStateException", u = "UnsupportedOperationException";
+        Map<String, Set<String>> want = new HashMap<>();
+        for (String name : "run entry level".split(" ")) {
+            want.put(name, Set.of(i, n));
+        }
+        for (String name : "job most led log".split(" ")) {
+            want.put(name, Set.of(n));
+        }
+        for (String name : "law ticks may likely look odds ahead trial span".split(" ")) {
+            want.put(name, Set.of(a));
+        }
+        for (String name : "work halt flush".split(" ")) {
+            want.put(name, Set.of(s));
+        }
+        for (String name : "remove get looks pairs".split(" ")) {
+            want.put(name, Set.of(i));
+        }
+        want.put("store", Set.of(a, u));
+        want.put("put", Set.of(i, a));
+        want.put("total", Set.of(i, a));
+        want.put("tune", Set.of(n, a));
+        for (Method method : RunLedger.class.getDeclaredMethods()) {
+            if (Modifier.isPublic(method.getModifiers())) {
+                Set<String> got = new TreeSet<>();
+                for (Class<?> kind : method.getExceptionTypes()) {
+                    got.add(kind.getSimpleName());
+                }
+                is(method.getName() + got, method.getName() + new TreeSet<>(want.getOrDefault(method.getName(), Set.of())));
+            }
+        }
+    }
+
+    // The public face: the one constant is NONE, the constructor takes nothing, and no other member can be seen.
+    static void promise01_noOtherMember() {
+        for (Field field : RunLedger.class.getDeclaredFields()) {
+            boolean isNone = field.getName().equals("NONE");
+            is(field.getName() + Modifier.toString(field.getModifiers() & ~Modifier.STATIC & ~Modifier.FINAL),
+                    field.getName() + (isNone ? "public" : "private"));
+            is(!isNone || field.getModifiers() == (Modifier.PUBLIC | Modifier.STATIC | Modifier.FINAL), true);
+        }
+        for (Method method : RunLedger.class.getDeclaredMethods()) {
+            is(Modifier.isPublic(method.getModifiers()) || Modifier.isPrivate(method.getModifiers()), true);
+            is(Modifier.isPublic(method.getModifiers()) && Modifier.isStatic(method.getModifiers()), false);
+        }
+        is(RunLedger.class.getDeclaredConstructors().length, 1);
+        is(RunLedger.class.getConstructors()[0].getParameterCount(), 0);
+        is(RunLedger.class.getSuperclass(), Object.class);
+        is(RunLedger.class.getInterfaces().length, 0);
     }
 }
